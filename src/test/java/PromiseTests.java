@@ -198,6 +198,12 @@ public final class PromiseTests {
         due("no such piece", x.add(1, 15, true), -1);
         due("the last is there", x.share(1, 11), 13 * 1000 / 90);
         due("no 13th", x.share(1, 12), -1);
+        due("worst reaction of a full chain", x.worst(1, false), 90);
+        due("worst age of a full chain", x.worst(1, true), 90 - 1 + 12);
+        due("best of a full chain", x.best(1, true), 11);
+        due("cycle of a full chain", x.cycle(1), 27720);
+        due("a full chain of a long cycle", x.plain(1), false);
+        due("stepped of a full chain", x.stepped(1), 90);
     }
 
     private static void worst() {
@@ -389,9 +395,9 @@ public final class PromiseTests {
         promise = "promise 10";
         due("below the limit", sampling(19997, 5, 19993, 5).cycle(1), 399800021);
         due("above the limit", sampling(19997, 5, 19993, 5, 20000, 0).cycle(1), 1000000000);
-        due("just the limit", sampling(512, 0, 15625, 0, 125, 0).cycle(1), 8000000);
-        due("exactly 10^9", sampling(512, 0, 3125, 0, 625, 0, 15625, 0).cycle(1), 8000000);
-        due("just below 10^9", sampling(19997, 0, 3, 0, 16667, 0).cycle(1), 999870 * 1000L + 1 - 1 + 999869997L - 999870000L);
+        due("powers of one prime", sampling(512, 0, 3125, 0, 625, 0, 15625, 0).cycle(1), 8000000);
+        due("just below the limit", sampling(71, 0, 2251, 0, 6257, 0).cycle(1), 999999997);
+        due("just above the limit", sampling(2, 0, 3, 0, 43, 0, 983, 0, 3943, 0).cycle(1), 1000000000);
         due("far above the limit", sampling(19997, 0, 19993, 0, 19991, 0, 19979, 0, 19973, 0, 19963, 0,
                 19961, 0, 19949, 0, 19937, 0, 19927, 0, 19919, 0, 19913, 0).cycle(1), 1000000000);
         due("more than the limit at first", sampling(19997, 0, 19993, 0, 19991, 0, 1, 0).cycle(1), 1000000000);
