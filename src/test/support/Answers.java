@@ -30,6 +30,12 @@ final class Answers {
         }
     }
 
+    static void due(String call, String got, String want) {
+        if (!got.equals(want)) {
+            tell(call + " answered " + got + ", due is " + want);
+        }
+    }
+
     /** A division's own exception has the text "/ by zero" and is never the document's. */
     static void dueArithmetic(String call, ChainSums x, int chain) {
         try {
